@@ -227,6 +227,11 @@ public final class FreeLandPromisesTest {
     due("the last has the gap of the one before", x.sets(2, 2), 70);
     due("what is set to 0 is set", x.sets(2, 1), 0);
     due("NONE is none still", x.sets(NONE, 0), 7600);
+    for (int l = 5; l < 8; l++) law(x, 500, "idle " + l);
+    due("the last of eight", x.sets(7, 5), 7);
+    due("the last of eight, of one before", x.sets(7, 2), 70);
+    due("the last of eight, as at first none", x.sets(NONE, 5), 180);
+    due("the law of the last day", x.lawOf(20000), 7);
   }
 
   private static void lawsOfDays() {
@@ -384,6 +389,15 @@ public final class FreeLandPromisesTest {
     due("another preference in place of one there", x.holds(0, 144, NONE, 3), 2);
     x.line(142, CONTEST, 2, 0, 0);
     due("idle 0, the ENTRY came today", x.outcome(11, NONE), 11);
+    FreeLand y = with(2, "age 0 idle 10");
+    y.line(0, FILE, 0, 0, 0);
+    y.line(19, LIVE, 0, 0, 1);
+    y.line(20, CONTEST, 1, 0, 0);
+    due("lived yesterday", y.outcome(2, NONE), 11);
+    y.strike(1, true);
+    due("not lived", y.outcome(2, NONE), 0);
+    y.line(20, LIVE, 0, 0, 1);
+    due("today is none of those ahead", y.outcome(2, NONE), 0);
     law(x, 143, "prefer 0 idle 10000");
     due("by the ENTRY's law, not the day's", x.outcome(10, NONE), 0);
     due("prefer by the ENTRY's law", x.holds(0, 146, NONE, 3), 2);
@@ -457,6 +471,20 @@ public final class FreeLandPromisesTest {
     due("12, 14, and 3 behind", x.outcome(6, NONE), 0);
     x.strike(4, true);
     due("5 behind 12", x.outcome(6, NONE), 14);
+    FreeLand z = with(1, "age 0 live 2 gap 3 plough 0 term 100");
+    z.line(10, FILE, 0, 9, 0);
+    z.line(10, LIVE, 0, 9, 1);
+    z.line(15, LIVE, 0, 9, 1);
+    z.line(16, PROVE, 0, 9, 0);
+    due("4 days in between", z.outcome(3, NONE), 14);
+    z.line(14, LIVE, 0, 9, 2);
+    due("3 days in between", z.outcome(3, NONE), 0);
+    z.strike(1, true);
+    z.line(5, LIVE, 0, 9, 5);
+    due("lived up to the day ahead of FILE", z.outcome(3, NONE), 14);
+    due("none of these days count", z.holds(9, 13, NONE, 4), 0);
+    z.line(10, LIVE, 0, 9, 1);
+    due("lived on its day", z.outcome(3, NONE), 0);
     FreeLand y = with(1, "age 0 live 0 plough 0 gap 0 term 0");
     y.line(10, FILE, 0, 9, 0);
     y.line(10, PROVE, 0, 9, 0);
@@ -524,6 +552,15 @@ public final class FreeLandPromisesTest {
     x.strike(10, true);
     long[] want = {3, 1, 11, 1, 3, 4, 1, 1, 2, 1, 2};
     for (int what = 0; what <= 10; what++) due("count(" + what + ")", x.count(what), want[what]);
+    for (int l = 0; l < 11; l++) x.strike(l, true);
+    long[] none = {3, 1, 11, 11, 3, 0, 0, 0, 0, 0, 0};
+    for (int what = 0; what <= 10; what++) due("all struck, count(" + what + ")", x.count(what), none[what]);
+    x.strike(6, false);
+    due("the first one not done", x.count(10), 1);
+    FreeLand y = new FreeLand();
+    y.person(0, 0);
+    y.line(0, GIVE_UP, 0, 0, 0);
+    due("the first LINE not done", y.count(10), 1);
     due("count(-1)", x.count(-1), OUTSIDE);
     due("count(11)", x.count(11), OUTSIDE);
     due("count(MIN)", x.count(MIN), OUTSIDE);
