@@ -419,7 +419,6 @@ public final class FreeLand {
     private int add(int itsDay, int itsSort) {
       day[size] = itsDay;
       sort[size] = itsSort;
-      struck[size] = false;
       int at = size;
       while (at > 0 && day[order[at - 1]] > itsDay) {
         order[at] = order[at - 1];

@@ -605,7 +605,8 @@ public final class FreeLandModelTest {
   public static void main(String[] args) {
     for (int number = 1; number <= 1500 && wrong == 0; number++) {
       begin(number);
-      for (int n = 0; n < 230; n++) call();
+      int calls = number % 8 == 0 ? 400 : 230;
+      for (int n = 0; n < calls; n++) call();
     }
     for (int number = 2001; number <= 2400 && wrong == 0; number++) land(number);
     for (int o = 0; o <= 16; o++) {

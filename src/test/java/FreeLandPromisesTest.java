@@ -299,6 +299,14 @@ public final class FreeLandPromisesTest {
     due("OUTSIDE ahead of FULL", x.line(20001, FILE, 0, 0, 0), OUTSIDE);
     due("lines", x.count(2), 120);
     due("the last one's outcome", x.outcome(119, NONE), 8);
+    for (int what = 0; what <= 10; what++) due("of a full book, count(" + what + ") is told", x.count(what) >= 0 ? 1 : 0, 1);
+    FreeLand y = with(2, "age 0 live 1 plough 1 gap 20000 term 20000");
+    y.line(0, FILE, 0, 0, 0);
+    for (int l = 1; l < 119; l++) y.line(l, l % 2 == 0 ? LIVE : PLOUGH, 0, 0, 1);
+    due("the last that fits", y.line(300, PROVE, 0, 0, 0), 119);
+    due("days of a full book", y.holds(0, 300, NONE, 4), 59);
+    due("acres of a full book", y.holds(0, 300, NONE, 5), 59);
+    due("proved by a full book", y.outcome(119, 120), 0);
   }
 
   private static void strikes() {
