@@ -121,8 +121,11 @@ public final class FreeLand {
       case 2: return book.size;
       case 3: return book.countStruck();
       case 4: return laws.length;
-      default:
+      default: return countOfWork(what);
     }
+  }
+
+  private int countOfWork(int what) {
     if (!within(what, 5, 10)) return OUTSIDE;
     work.through(book.size, LAST_DAY);
     switch (what) {
