@@ -447,6 +447,9 @@ public final class FreeLandModelTest {
   private static long seed = 20261119;
   private static int wrong = 0;
   private static final int[] outcomes = new int[17];
+  private static int fullBooks = 0;
+  /** More calls than one step of a run ever makes. */
+  private static final int AT_ONCE = 20;
 
   private static int below(int n) {
     seed = seed * 6364136223846793005L + 1442695040888963407L;
@@ -475,14 +478,17 @@ public final class FreeLandModelTest {
   }
 
   private static int run;
+  /** Whether the run tells lines rather than laws, up to a full book. */
+  private static boolean bookish;
   private static int span;
   private static int[] quarters;
-  private static FreeLand x;
+  private static Land x;
   private static Model m;
 
   private static void begin(int number) {
     run = number;
-    x = new FreeLand();
+    bookish = number % 8 == 0;
+    x = new Land();
     m = new Model();
     span = once(5) ? 20000 : from(10, 160);
     quarters = new int[from(1, 4)];
@@ -555,6 +561,7 @@ public final class FreeLandModelTest {
     int got = x.line(day, sort, p, q, n);
     due(run, "line(" + day + ", " + sort + ", " + p + ", " + q + ", " + n + ")", got, m.line(day, sort, p, q, n));
     if (got >= 0) outcome(got, NONE);
+    if (got == FULL) fullBooks++;
   }
 
   private static void outcome(int l, int k) {
@@ -572,7 +579,10 @@ public final class FreeLandModelTest {
       case 0: person(); break;
       case 1: int d = or(from(0, 20001)); due(run, "map(" + d + ")", x.map(d), m.map(d)); break;
       case 2: int e = or(below(span + 1)); due(run, "map(" + e + ")", x.map(e), m.map(e)); break;
-      case 3: case 4: law(day, anyText()); break;
+      case 3: case 4:
+        if (bookish && !once(6)) line();
+        else law(day, anyText());
+        break;
       case 5: int s = or(from(-1, m.laws.size())), w = or(below(10)); due(run, "sets(" + s + ", " + w + ")", x.sets(s, w), m.sets(s, w)); break;
       case 6: due(run, "lawOf(" + day + ")", x.lawOf(day), m.lawOf(day)); break;
       case 7: boolean on = !once(3); due(run, "strike(" + l + ", " + on + ")", x.strike(l, on), m.strike(l, on)); break;
@@ -588,7 +598,7 @@ public final class FreeLandModelTest {
 
   private static void land(int number) {
     run = number;
-    x = new FreeLand();
+    x = new Land();
     m = new Model();
     int far = once(2) ? 10000 : 900;
     for (int n = 0; n < 300; n++) {
@@ -605,13 +615,14 @@ public final class FreeLandModelTest {
   public static void main(String[] args) {
     for (int number = 1; number <= 1500 && wrong == 0; number++) {
       begin(number);
-      int calls = number % 8 == 0 ? 400 : 230;
-      for (int n = 0; n < calls; n++) call();
+      int calls = bookish ? Land.MOST_CALLS : 230;
+      for (int n = 0; n < calls && x.left() >= AT_ONCE; n++) call();
     }
     for (int number = 2001; number <= 2400 && wrong == 0; number++) land(number);
     for (int o = 0; o <= 16; o++) {
       if (wrong == 0 && outcomes[o] < 50) due(0, "runs that came to outcome " + o, outcomes[o], 50);
     }
+    if (wrong == 0 && fullBooks < 50) due(0, "lines that a full book refused", fullBooks, 50);
     System.out.println("outcomes met: " + Arrays.toString(outcomes));
     System.out.println(wrong == 0 ? "the model answers likewise" : wrong + " answers are not the model's");
     if (wrong != 0) System.exit(1);

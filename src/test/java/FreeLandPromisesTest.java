@@ -1,47 +1,8 @@
-import java.nio.charset.StandardCharsets;
-
 /** Each promise by hand: ordinary inputs, the edges that the document names, and wrong inputs. */
-public final class FreeLandPromisesTest {
-  private static final int NONE = -1, UNKNOWN = -1001, OUTSIDE = -1002, NOT = -1003, FULL = -1004;
-  private static final int FILE = 0, LIVE = 1, PLOUGH = 2, GIVE_UP = 3, CONTEST = 4, PROVE = 5, DEATH = 6;
-  private static final int MIN = Integer.MIN_VALUE, MAX = Integer.MAX_VALUE;
-
-  private static int wrong = 0;
-  private static String part = "";
-
-  private static void due(String what, long got, long want) {
-    if (got == want) return;
-    wrong++;
-    System.out.println(part + ": " + what + " answered " + got + ", due is " + want);
-  }
-
-  /** Feeds a text and makes a law of it. */
-  private static int law(FreeLand x, int day, String text) {
-    feed(x, text);
-    return x.law(day);
-  }
-
-  private static void feed(FreeLand x, String text) {
-    byte[] bytes = text.getBytes(StandardCharsets.ISO_8859_1);
-    for (int at = 0; at < bytes.length; at += 8) {
-      int n = Math.min(8, bytes.length - at);
-      long packed = 0;
-      for (int i = 0; i < n; i++) packed = packed << 8 | (bytes[at + i] & 255);
-      x.feed(n, packed);
-    }
-  }
-
-  /** An object with persons born on day 0 and citizens from day 0 on, and a law from day 0 on. */
-  private static FreeLand with(int persons, String text) {
-    FreeLand x = new FreeLand();
-    for (int p = 0; p < persons; p++) x.person(0, 0);
-    law(x, 0, text);
-    return x;
-  }
-
+public final class FreeLandPromisesTest extends Check {
   private static void newObject() {
-    part = "1 a new object";
-    FreeLand x = new FreeLand();
+    part("1 a new object");
+    Land x = new Land();
     for (int what = 0; what <= 10; what++) due("count(" + what + ")", x.count(what), 0);
     due("map(20001)", x.map(20001), 20001);
     due("place()", x.place(), NONE);
@@ -53,15 +14,16 @@ public final class FreeLandPromisesTest {
         due("known " + i + ", " + j, x.lies(i, j, 2), 1);
       }
     }
+    Land z = new Land();
     for (int q = 0; q < 64; q++) {
-      due("holder of " + q, x.holds(q, 20000, NONE, 0), NONE);
-      due("standing of " + q, x.holds(q, 20000, NONE, 1), 0);
-      due("line of " + q, x.holds(q, 20000, NONE, 2), NONE);
-      due("preference for " + q, x.holds(q, 20000, NONE, 3), NONE);
-      due("days of " + q, x.holds(q, 20000, NONE, 4), 0);
-      due("acres of " + q, x.holds(q, 20000, NONE, 5), 0);
+      due("holder of " + q, z.holds(q, 20000, NONE, 0), NONE);
+      due("standing of " + q, z.holds(q, 20000, NONE, 1), 0);
+      due("line of " + q, z.holds(q, 20000, NONE, 2), NONE);
+      due("preference for " + q, z.holds(q, 20000, NONE, 3), NONE);
+      due("days of " + q, z.holds(q, 20000, NONE, 4), 0);
+      due("acres of " + q, z.holds(q, 20000, NONE, 5), 0);
     }
-    FreeLand y = new FreeLand();
+    Land y = new Land();
     y.person(0, 0);
     y.lose(1, 1);
     due("another object's persons", x.count(0), 0);
@@ -69,8 +31,8 @@ public final class FreeLandPromisesTest {
   }
 
   private static void persons() {
-    part = "2 person";
-    FreeLand x = new FreeLand();
+    part("2 person");
+    Land x = new Land();
     due("birth too early", x.person(-20001, 0), OUTSIDE);
     due("birth too late", x.person(20001, 0), OUTSIDE);
     due("citizen too early", x.person(0, -20001), OUTSIDE);
@@ -87,8 +49,8 @@ public final class FreeLandPromisesTest {
   }
 
   private static void map() {
-    part = "3 map";
-    FreeLand x = with(2, "age 0 most 99 idle 0");
+    part("3 map");
+    Land x = with(2, "age 0 most 99 idle 0");
     due("map(-1)", x.map(-1), OUTSIDE);
     due("map(20002)", x.map(20002), OUTSIDE);
     due("map(MIN)", x.map(MIN), OUTSIDE);
@@ -117,8 +79,8 @@ public final class FreeLandPromisesTest {
   }
 
   private static void feeds() {
-    part = "4 feed";
-    FreeLand x = new FreeLand();
+    part("4 feed");
+    Land x = new Land();
     due("feed(0)", x.feed(0, 0), OUTSIDE);
     due("feed(9)", x.feed(9, 0), OUTSIDE);
     due("feed(-1)", x.feed(-1, 0), OUTSIDE);
@@ -139,7 +101,7 @@ public final class FreeLandPromisesTest {
   }
 
   private static void fault(String text, int number, int place) {
-    FreeLand x = new FreeLand();
+    Land x = new Land();
     feed(x, "age");
     x.law(0);
     feed(x, text);
@@ -150,7 +112,7 @@ public final class FreeLandPromisesTest {
   }
 
   private static void lawsAndPlaces() {
-    part = "5 law, 6 place";
+    part("5 law, 6 place");
     fault("", 0, NONE);
     fault("    ", 0, NONE);
     fault("age 1", 0, NONE);
@@ -179,7 +141,7 @@ public final class FreeLandPromisesTest {
     fault("age 1 age", 3, 6);
     fault("age 1 live 1 age 0000000", 3, 13);
     fault("age 1234567 age", 2, 4);
-    FreeLand x = new FreeLand();
+    Land x = new Land();
     feed(x, "gap 5");
     due("day -1", x.law(-1), OUTSIDE);
     due("day 20001", x.law(20001), OUTSIDE);
@@ -203,8 +165,8 @@ public final class FreeLandPromisesTest {
   }
 
   private static void setsOfLaws() {
-    part = "7 sets";
-    FreeLand x = new FreeLand();
+    part("7 sets");
+    Land x = new Land();
     int[] first = {7600, 1800, 180, 10, 2600, 180, 30, 1, 100, 0};
     for (int what = 0; what <= 9; what++) due("sets(NONE, " + what + ")", x.sets(NONE, what), first[what]);
     due("no law", x.sets(0, 0), UNKNOWN);
@@ -235,8 +197,8 @@ public final class FreeLandPromisesTest {
   }
 
   private static void lawsOfDays() {
-    part = "8 lawOf";
-    FreeLand x = new FreeLand();
+    part("8 lawOf");
+    Land x = new Land();
     law(x, 10, "");
     law(x, 5, "");
     law(x, 10, "");
@@ -254,8 +216,8 @@ public final class FreeLandPromisesTest {
   }
 
   private static void linesTold() {
-    part = "9 line, 11 told";
-    FreeLand x = new FreeLand();
+    part("9 line, 11 told");
+    Land x = new Land();
     x.person(0, 0);
     x.person(0, 0);
     due("p 2", x.line(0, FILE, 2, 0, 0), UNKNOWN);
@@ -300,7 +262,7 @@ public final class FreeLandPromisesTest {
     due("lines", x.count(2), 120);
     due("the last one's outcome", x.outcome(119, NONE), 8);
     for (int what = 0; what <= 10; what++) due("of a full book, count(" + what + ") is told", x.count(what) >= 0 ? 1 : 0, 1);
-    FreeLand y = with(2, "age 0 live 1 plough 1 gap 20000 term 20000");
+    Land y = with(2, "age 0 live 1 plough 1 gap 20000 term 20000");
     y.line(0, FILE, 0, 0, 0);
     for (int l = 1; l < 119; l++) y.line(l, l % 2 == 0 ? LIVE : PLOUGH, 0, 0, 1);
     due("the last that fits", y.line(300, PROVE, 0, 0, 0), 119);
@@ -310,8 +272,8 @@ public final class FreeLandPromisesTest {
   }
 
   private static void strikes() {
-    part = "10 strike";
-    FreeLand x = with(2, "age 0 most 9");
+    part("10 strike");
+    Land x = with(2, "age 0 most 9");
     due("no line", x.strike(0, true), UNKNOWN);
     due("-1", x.strike(-1, true), UNKNOWN);
     x.line(5, FILE, 0, 4, 0);
@@ -328,8 +290,8 @@ public final class FreeLandPromisesTest {
   }
 
   private static void outcomesOfFiling() {
-    part = "12 outcome of FILE";
-    FreeLand x = new FreeLand();
+    part("12 outcome of FILE");
+    Land x = new Land();
     x.person(100, 0);
     x.person(0, 131);
     x.person(0, 0);
@@ -347,7 +309,7 @@ public final class FreeLandPromisesTest {
     for (int l = 0; l < want.length; l++) due("line " + l, x.outcome(l, NONE), want[l]);
     law(x, 132, "most 3");
     due("by the law of the day", x.outcome(7, NONE), 0);
-    due("most at first", new FreeLand().sets(NONE, 7), 1);
+    due("most at first", new Land().sets(NONE, 7), 1);
     x.line(140, CONTEST, 2, 0, 0);
     x.line(150, FILE, 3, 0, 0);
     x.line(151, FILE, 3, 0, 0);
@@ -361,14 +323,14 @@ public final class FreeLandPromisesTest {
     due("k of all", x.outcome(10, 11), 0);
     due("not among them", x.outcome(10, 10), NONE);
     due("k 0", x.outcome(0, 0), NONE);
-    FreeLand y = with(1, "age 0 most 0");
+    Land y = with(1, "age 0 most 0");
     y.line(0, FILE, 0, 0, 0);
     due("most 0", y.outcome(0, NONE), 7);
   }
 
   private static void outcomesOfContests() {
-    part = "12 outcome of CONTEST";
-    FreeLand x = with(3, "age 0 idle 10 prefer 3 most 9");
+    part("12 outcome of CONTEST");
+    Land x = with(3, "age 0 idle 10 prefer 3 most 9");
     int[] days = {110, 111, 139, 140, 141};
     x.line(100, FILE, 0, 0, 0);
     x.line(120, LIVE, 0, 0, 10);
@@ -397,7 +359,7 @@ public final class FreeLandPromisesTest {
     due("another preference in place of one there", x.holds(0, 144, NONE, 3), 2);
     x.line(142, CONTEST, 2, 0, 0);
     due("idle 0, the ENTRY came today", x.outcome(11, NONE), 11);
-    FreeLand y = with(2, "age 0 idle 10");
+    Land y = with(2, "age 0 idle 10");
     y.line(0, FILE, 0, 0, 0);
     y.line(19, LIVE, 0, 0, 1);
     y.line(20, CONTEST, 1, 0, 0);
@@ -412,8 +374,8 @@ public final class FreeLandPromisesTest {
   }
 
   private static void outcomesOfProofs() {
-    part = "12 outcome of PROVE";
-    FreeLand x = with(3, "age 0 live 10 gap 4 plough 6 term 50 bind 5 idle 9");
+    part("12 outcome of PROVE");
+    Land x = with(3, "age 0 live 10 gap 4 plough 6 term 50 bind 5 idle 9");
     x.line(100, FILE, 0, 0, 0);
     x.line(95, LIVE, 0, 0, 8);
     x.line(106, LIVE, 0, 0, 8);
@@ -460,8 +422,8 @@ public final class FreeLandPromisesTest {
   }
 
   private static void gaps() {
-    part = "12 gaps";
-    FreeLand x = with(1, "age 0 live 0 gap 3 plough 0 term 100");
+    part("12 gaps");
+    Land x = with(1, "age 0 live 0 gap 3 plough 0 term 100");
     x.line(10, FILE, 0, 9, 0);
     x.line(13, PROVE, 0, 9, 0);
     due("3 days", x.outcome(1, NONE), 0);
@@ -479,7 +441,7 @@ public final class FreeLandPromisesTest {
     due("12, 14, and 3 behind", x.outcome(6, NONE), 0);
     x.strike(4, true);
     due("5 behind 12", x.outcome(6, NONE), 14);
-    FreeLand z = with(1, "age 0 live 2 gap 3 plough 0 term 100");
+    Land z = with(1, "age 0 live 2 gap 3 plough 0 term 100");
     z.line(10, FILE, 0, 9, 0);
     z.line(10, LIVE, 0, 9, 1);
     z.line(15, LIVE, 0, 9, 1);
@@ -493,15 +455,15 @@ public final class FreeLandPromisesTest {
     due("none of these days count", z.holds(9, 13, NONE, 4), 0);
     z.line(10, LIVE, 0, 9, 1);
     due("lived on its day", z.outcome(3, NONE), 0);
-    FreeLand y = with(1, "age 0 live 0 plough 0 gap 0 term 0");
+    Land y = with(1, "age 0 live 0 plough 0 gap 0 term 0");
     y.line(10, FILE, 0, 9, 0);
     y.line(10, PROVE, 0, 9, 0);
     due("proved on the day of FILE", y.outcome(1, NONE), 0);
   }
 
   private static void deaths() {
-    part = "12 outcome of DEATH";
-    FreeLand x = with(4, "age 0 live 6 gap 99 plough 5 most 2");
+    part("12 outcome of DEATH");
+    Land x = with(4, "age 0 live 6 gap 99 plough 5 most 2");
     x.line(10, FILE, 0, 0, 0);
     x.line(10, FILE, 0, 1, 0);
     x.line(12, GIVE_UP, 0, 1, 0);
@@ -543,8 +505,8 @@ public final class FreeLandPromisesTest {
   }
 
   private static void counts() {
-    part = "13 count";
-    FreeLand x = with(3, "age 0 most 9 live 0 gap 9999 plough 0 idle 2");
+    part("13 count");
+    Land x = with(3, "age 0 most 9 live 0 gap 9999 plough 0 idle 2");
     feed(x, "abc");
     x.line(1, FILE, 0, 0, 0);
     x.line(1, FILE, 0, 1, 0);
@@ -565,7 +527,7 @@ public final class FreeLandPromisesTest {
     for (int what = 0; what <= 10; what++) due("all struck, count(" + what + ")", x.count(what), none[what]);
     x.strike(6, false);
     due("the first one not done", x.count(10), 1);
-    FreeLand y = new FreeLand();
+    Land y = new Land();
     y.person(0, 0);
     y.line(0, GIVE_UP, 0, 0, 0);
     due("the first LINE not done", y.count(10), 1);
@@ -575,8 +537,8 @@ public final class FreeLandPromisesTest {
   }
 
   private static void holding() {
-    part = "14 holds";
-    FreeLand x = with(2, "age 0 most 9 idle 3 prefer 4 live 1 plough 0");
+    part("14 holds");
+    Land x = with(2, "age 0 most 9 idle 3 prefer 4 live 1 plough 0");
     x.line(10, FILE, 0, 63, 0);
     x.line(5, FILE, 1, 63, 0);
     x.line(12, LIVE, 0, 63, 5000);
@@ -606,7 +568,7 @@ public final class FreeLandPromisesTest {
     due("k 4", x.holds(0, 0, 4, 0), NONE);
     due("what 6", x.holds(0, 0, NONE, 6), OUTSIDE);
     due("what -1", x.holds(0, 0, NONE, -1), OUTSIDE);
-    FreeLand y = with(1, "age 0");
+    Land y = with(1, "age 0");
     y.line(5, PLOUGH, 0, 7, 9);
     y.line(5, FILE, 0, 7, 0);
     y.line(5, PLOUGH, 0, 7, 3);
@@ -614,8 +576,8 @@ public final class FreeLandPromisesTest {
   }
 
   private static void holdingsOf() {
-    part = "15 holdings";
-    FreeLand x = with(2, "age 0 most 9 live 0 plough 0");
+    part("15 holdings");
+    Land x = with(2, "age 0 most 9 live 0 plough 0");
     for (int q = 0; q < 5; q++) x.line(q, FILE, q % 2, q, 0);
     x.line(4, PROVE, 0, 4, 0);
     x.line(5, GIVE_UP, 0, 0, 0);
@@ -633,8 +595,8 @@ public final class FreeLandPromisesTest {
   }
 
   private static void digests() {
-    part = "16 digest";
-    FreeLand x = with(2, "age 0 most 2");
+    part("16 digest");
+    Land x = with(2, "age 0 most 2");
     int d = 7;
     for (int q = 0; q < 64; q++) d = 31 * d - 1;
     due("of none", x.digest(NONE), d);
@@ -657,8 +619,8 @@ public final class FreeLandPromisesTest {
   }
 
   private static void corners() {
-    part = "17 corner, 18 lose, 19 lies";
-    FreeLand x = new FreeLand();
+    part("17 corner, 18 lose, 19 lies");
+    Land x = new Land();
     int[][] out = {{-1, 0, 0, 0}, {9, 0, 0, 0}, {0, -1, 0, 0}, {0, 9, 0, 0}, {0, 0, -10001, 0}, {0, 0, 10001, 0}, {0, 0, 0, -10001}, {0, 0, 0, 10001}, {MIN, MAX, MIN, MAX}};
     for (int[] o : out) due("corner out of bounds", x.corner(o[0], o[1], o[2], o[3]), OUTSIDE);
     due("nothing changed", x.lies(0, 0, 0), 0);
@@ -691,8 +653,8 @@ public final class FreeLandPromisesTest {
   }
 
   private static void cornersByJ() {
-    part = "19 lies, along the other line";
-    FreeLand x = new FreeLand();
+    part("19 lies, along the other line");
+    Land x = new Land();
     x.corner(0, 2, 11, 207);
     x.lose(0, 3);
     x.lose(0, 4);
@@ -711,7 +673,7 @@ public final class FreeLandPromisesTest {
     due("its neighbour by i", x.lies(4, 5, 0), 840 * 400);
     x.corner(4, 8, 400, 1200);
     due("by j, from far", x.lies(4, 4, 1), 840 * 300 + 168 * 900);
-    FreeLand y = new FreeLand();
+    Land y = new Land();
     for (int i = 0; i <= 8; i++) {
       for (int j = 0; j <= 8; j++) y.lose(i, j);
     }
@@ -720,8 +682,8 @@ public final class FreeLandPromisesTest {
   }
 
   private static void areas() {
-    part = "20 area";
-    FreeLand x = new FreeLand();
+    part("20 area");
+    Land x = new Land();
     for (int q = 0; q < 64; q++) due("quarter " + q, x.area(q), 20000L * 840 * 840);
     due("q 64", x.area(64), UNKNOWN);
     due("q -1", x.area(-1), UNKNOWN);
@@ -739,7 +701,7 @@ public final class FreeLandPromisesTest {
     x.lose(8, 8);
     due("a corner nowhere", x.area(63), NOT);
     due("its neighbour", x.area(62), 20000L * 840 * 840);
-    FreeLand y = new FreeLand();
+    Land y = new Land();
     y.corner(0, 0, 0, 1);
     y.corner(2, 0, 201, 0);
     y.lose(1, 0);
@@ -750,8 +712,8 @@ public final class FreeLandPromisesTest {
 
   /** What is asked, or refused, changes nothing that is asked later. */
   private static void asOftenAsAsked() {
-    part = "asking";
-    FreeLand x = with(3, "age 0 most 9 live 2 gap 5 plough 0 idle 2");
+    part("asking");
+    Land x = with(3, "age 0 most 9 live 2 gap 5 plough 0 idle 2");
     x.line(10, FILE, 0, 0, 0);
     x.line(11, LIVE, 0, 0, 3);
     x.line(14, PROVE, 0, 0, 0);
@@ -790,7 +752,6 @@ public final class FreeLandPromisesTest {
     cornersByJ();
     areas();
     asOftenAsAsked();
-    System.out.println(wrong == 0 ? "all promises hold" : wrong + " answers are not as due");
-    if (wrong != 0) System.exit(1);
+    end("all promises hold");
   }
 }
